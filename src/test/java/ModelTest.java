@@ -10,6 +10,7 @@ public final class ModelTest {
     private int wrong;
     private final StringBuilder log = new StringBuilder();
     private int size;
+    private int base;
 
     public static void main(String[] args) {
         int runs = args.length > 0 ? Integer.parseInt(args[0]) : 160;
@@ -26,7 +27,7 @@ public final class ModelTest {
 
     private void run(int number) {
         seed = number * 7919L;
-        size = number % 4;
+        size = number % 5;
         yard = new GapYard();
         model = new Model();
         log.setLength(0);
@@ -66,8 +67,10 @@ public final class ModelTest {
                 return 2 + below(40);
             case 2:
                 return below(3) == 0 ? below(301) : 5 + below(60);
-            default:
+            case 3:
                 return below(10) == 0 ? below(303) - 1 : 1 + below(120);
+            default:
+                return base + below(base);
         }
     }
 
@@ -84,7 +87,8 @@ public final class ModelTest {
     }
 
     private void fillRow() {
-        int many = 2 + below(4);
+        int many = size == 4 ? 8 + below(5) : 2 + below(4);
+        base = 20 + below(90);
         for (int i = 0; i < many; i++) {
             int typed = typedNumber();
             compare("type(" + typed + ")", () -> yard.type(typed), () -> model.type(typed));
