@@ -1304,6 +1304,8 @@ public final class GapYard {
     private static final class Graph {
         /** Far more than the numbers of coins that are tried for up to 400 ways. */
         private static final int MOST_TURNS = 4000000;
+        /** Above each distance of two ways. */
+        private static final int FAR = 1000000;
 
         private final int[] usable = new int[TOP + 1];
         private int usableCount;
@@ -1434,7 +1436,7 @@ public final class GapYard {
         /** The ways are joined by steps as short as can be; the longest of these decides. */
         private int widestStep() {
             for (int i = 0; i < nearest.length; i++) {
-                nearest[i] = Integer.MAX_VALUE;
+                nearest[i] = FAR;
                 isJoined[i] = false;
             }
             int widest = 0;
@@ -1462,7 +1464,7 @@ public final class GapYard {
 
         private int nextWay() {
             int next = -1;
-            int best = Integer.MAX_VALUE;
+            int best = FAR;
             for (int i = 0; i < rows && i < nearest.length; i++) {
                 if (!isJoined[i] && nearest[i] < best) {
                     best = nearest[i];

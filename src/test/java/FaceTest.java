@@ -92,7 +92,7 @@ public final class FaceTest {
         String code = text.replaceAll("(?s)/\\*.*?\\*/", "").replaceAll("//[^\n]*", "");
         for (String token : new String[] {"try", "catch", "finally", "package", "synchronized", "assert", "while",
                 "instanceof", "System", "Random", "Thread", "Object", "hashCode", "toString", "static \\{", "->", "::",
-                "\\w+Exact\\b", "\\[\\]\\[\\]", "Double", "Float", "\" \\+", "\\+ \""}) {
+                "\\w+Exact\\b", "Integer", "Long", "Math\\.(?!max|min)", "Arrays\\.(?!fill)", "\\[\\]\\[\\]", "Double", "Float", "\" \\+", "\\+ \""}) {
             String pattern = token.matches("\\w+") ? "\\b" + token + "\\b" : token;
             CHECK.due("no " + token, () -> Pattern.compile(pattern).matcher(code).find() ? "a " + token : "no " + token);
         }

@@ -176,7 +176,7 @@ public final class PromisesTest {
         coinsAre(yard, 0, 6, 9, 20);
         CHECK.due(1, () -> span(yard, 1));
         coinsAre(yard, 1, 1);
-        // The conductors of these are 300 and 302, of 301 numbers there is one with 298.
+        // The conductors of 11 and 31, and of 4 and 101, are 300; that of 4 and 103 is 306.
         CHECK.due(2, () -> span(yard, 11, 31));
         CHECK.due(299, () -> yard.frobenius(2));
         type(yard, 2, 300);
@@ -393,6 +393,8 @@ public final class PromisesTest {
         kindsAre(of(3, 5), 0, "satc");
         kindsAre(of(6, 9, 20), 0, "satc");
         kindsAre(of(4, 6, 9), 0, "satc");
+        // Two relations, but both of them for 30.
+        kindsAre(of(6, 10, 15), 0, "satc");
         kindsAre(of(3, 4, 5), 0, "pamro");
         kindsAre(of(3, 5, 7), 0, "pamr");
         kindsAre(of(2, 9), 0, "samrtc");
@@ -443,6 +445,21 @@ public final class PromisesTest {
         CHECK.due(true, () -> yard.isKind(1, 'm'));
         CHECK.fails(yard, UNSUPPORTED, () -> yard.bettis(1));
         CHECK.fails(yard, UNSUPPORTED, () -> yard.relations(1));
+        // 300 is looked at, and has 400 ways.
+        GapYard just = new GapYard();
+        span(just, 83, 92, 106, 120, 114, 104, 74, 88, 70, 92, 78, 80);
+        just.closure(0, 'r');
+        CHECK.due(400L, () -> just.ways(1, 300));
+        CHECK.due(false, () -> just.isKind(1, 'c'));
+        CHECK.due(true, () -> just.bettis(1) > 0 && just.relations(1) >= just.bettis(1));
+        // 234 is looked at, and has 401 ways.
+        GapYard more = new GapYard();
+        span(more, 79, 52, 44, 44, 46, 44, 62, 68, 40, 76, 50, 70);
+        more.closure(0, 'r');
+        CHECK.due(401L, () -> more.ways(1, 234));
+        CHECK.fails(more, UNSUPPORTED, () -> more.isKind(1, 'c'));
+        CHECK.fails(more, UNSUPPORTED, () -> more.bettis(1));
+        CHECK.fails(more, UNSUPPORTED, () -> more.relations(1));
     }
 
     private static int[] range(int first, int last) {
@@ -570,6 +587,10 @@ public final class PromisesTest {
         CHECK.fails(two, ELEMENT, () -> two.without(1, 2));
         CHECK.due(2, () -> two.without(0, 0));
         CHECK.due(297, () -> two.frobenius(2));
+        GapYard great = of(7, 295, 296, 297, 298, 299, 300);
+        CHECK.fails(great, UNSUPPORTED, () -> great.without(0, 6));
+        CHECK.due(1, () -> great.without(0, 5));
+        CHECK.due(299, () -> great.frobenius(1));
         GapYard full = full();
         CHECK.fails(full, STATE, () -> full.without(0, 0));
         CHECK.fails(full, ELEMENT, () -> full.without(0, 2));
@@ -616,6 +637,19 @@ public final class PromisesTest {
         CHECK.due(71 + 69 * 68 / 2 + 1, () -> wide.below(1, 2));
         CHECK.fails(wide, UNSUPPORTED, () -> wide.below(1, 3));
         CHECK.fails(wide, ARGUMENT, () -> wide.below(1, 7));
+        // All from 100 on have 4953 two steps below, and all from 101 on have 5053.
+        GapYard hundred = new GapYard();
+        span(hundred, 100, 101, 102, 103, 104, 105, 110, 115, 120, 125, 150, 175);
+        hundred.closure(0, 'r');
+        hundred.without(1, 0);
+        CHECK.due(100 + 2 + 99 * 98 / 2, () -> hundred.below(1, 2));
+        CHECK.due(101, () -> hundred.below(2, 1));
+        CHECK.fails(hundred, UNSUPPORTED, () -> hundred.below(2, 2));
+        // Without 300 the conductor would be 301.
+        GapYard great = of(7, 295, 296, 297, 298, 299, 300);
+        CHECK.due(1, () -> great.below(0, 0));
+        CHECK.due(6, () -> great.children(0));
+        CHECK.fails(great, UNSUPPORTED, () -> great.below(0, 1));
         // The odd generators of these are 297, 299 and 301 after a step each.
         GapYard two = of(2, 297);
         CHECK.due(1, () -> two.below(0, 2));
@@ -834,6 +868,10 @@ public final class PromisesTest {
         GapYard all = all();
         CHECK.due(0, () -> all.canonical(0));
         membersAre(all, 0, 0);
+        for (int n = 590; n <= 610; n++) {
+            int number = n;
+            CHECK.due(true, () -> all.isIn(0, number));
+        }
         for (int wrong : WRONG) {
             CHECK.fails(yard, INDEX, () -> yard.canonical(wrong));
         }
