@@ -12,6 +12,7 @@ public final class EdgesTest {
         new IdealEdges(edges).run();
         new GameEdges(edges).run();
         new FigureEdges(edges).run();
+        new AgainEdges(edges).run();
         edges.end();
     }
 }

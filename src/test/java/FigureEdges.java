@@ -118,6 +118,14 @@ final class FigureEdges extends Yards {
         idealOf(late, 9, -150, 150);
         late.dual(1);
         edges.due(true, late::isSound);
+        edges.edge(54, "its dual of the dual of each ideal is the ideal again", "from -300 on, and from 300 on");
+        for (int end : new int[] {-150, 150}) {
+            GapYard far = of(4, 101);
+            idealOf(far, 0, end);
+            far.combine(0, 0, '+');
+            edges.due(2 * end, () -> far.least(1));
+            edges.due(true, far::isSound);
+        }
         edges.edge(54, "where these can be", "a dual that would be out of range");
         edges.due(true, () -> outOfRange().isSound());
         edges.refused(UNSUPPORTED, () -> outOfRange(), yard -> yard.dual(2));

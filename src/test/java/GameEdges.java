@@ -133,6 +133,9 @@ final class GameEdges extends Yards {
         edges.due(true, () -> of(2, 25).wins(0));
         edges.due(12, () -> ofGaps(1, 2, 3, 4, 5, 6, 7, 8, 9, 10, 11, 12).genus(0));
         edges.due(true, () -> ofGaps(1, 2, 3, 4, 5, 6, 7, 8, 9, 10, 11, 12).wins(0));
+        edges.due(true, () -> of(4, 9).wins(0));
+        edges.due(false, () -> of(4, 14, 17, 23).wins(0));
+        edges.due(false, () -> of(7, 9, 12, 15).wins(0));
         edges.edge(45, "if the genus is above 12", "13 is refused, and all above");
         edges.due(13, () -> of(2, 27).genus(0));
         edges.refused(UNSUPPORTED, () -> of(2, 27), yard -> yard.wins(0));
@@ -220,6 +223,10 @@ final class GameEdges extends Yards {
         edges.edge(48, words, "a full row, the twelfth number of which counts");
         edges.due(12, () -> typed(2, 3, 4, 5, 6, 7, 8, 9, 10, 11, 12, 1).stamps(1));
         edges.due(240, () -> typed(2, 3, 4, 5, 6, 7, 8, 9, 10, 11, 12, 1).stamps(20));
+        edges.edge(48, words, "6000, the greatest number that can come out: 20 of 300");
+        int[] best = {1, 300, 299, 266, 31, 292, 160, 101, 204, 35, 14, 243};
+        edges.due(6000, () -> typed(best).stamps(20));
+        edges.due(5700, () -> typed(best).stamps(19));
         edges.edge(48, words, "one number often");
         edges.due(20, () -> typed(1, 1, 1, 1, 1, 1, 1, 1, 1, 1, 1, 1).stamps(20));
     }
@@ -273,5 +280,10 @@ final class GameEdges extends Yards {
         edges.due(0, () -> of(2, 3).nim(0, 5));
         edges.due(2, () -> of(2, 3).nim(0, 299));
         edges.due(0, () -> of(2, 3).nim(0, 300));
+        edges.edge(50, words, "the values of another semigroup, asked for the same number, are not seen");
+        GapYard yard = all();
+        span(yard, 2, 3);
+        edges.due(0, () -> yard.nim(0, 2));
+        edges.due(1, () -> yard.nim(1, 2));
     }
 }

@@ -41,6 +41,10 @@ final class IdealEdges extends Yards {
             int number = n;
             edges.due(isMember, () -> yard.isIn(ideal, number));
         }
+        for (int far : new int[] {last + 100, 599, 600, 601, MAX}) {
+            edges.due(far > last, () -> yard.isIn(ideal, far));
+        }
+        edges.due(false, () -> yard.isIn(ideal, -301));
     }
 
     private void ideal() {

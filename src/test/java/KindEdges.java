@@ -294,6 +294,10 @@ final class KindEdges extends Yards {
         edges.due(2, () -> of(2, 3).below(0, 1));
         edges.due(3, () -> of(3, 4, 5).below(0, 1));
         edges.due(1, () -> of(2, 9).below(0, 1));
+        edges.edge(23, "Returns how many semigroups below one in the tree, or itself, are so many steps away.", "left ones make sums");
+        // Without 11 the greatest candidate is 15, which is 5 and 10.
+        edges.due(1, () -> of(4, 5, 11).below(0, 1));
+        edges.due(0, () -> of(4, 5, 11).below(0, 2));
     }
 
     private void belowFar() {

@@ -1,14 +1,5 @@
-import java.util.NoSuchElementException;
-
 /** Each promise of the document: ordinary inputs, the edges that it names, and wrong inputs. */
-public final class PromisesTest {
-    private static final Class<IllegalArgumentException> ARGUMENT = IllegalArgumentException.class;
-    private static final Class<IllegalStateException> STATE = IllegalStateException.class;
-    private static final Class<IndexOutOfBoundsException> INDEX = IndexOutOfBoundsException.class;
-    private static final Class<NoSuchElementException> ELEMENT = NoSuchElementException.class;
-    private static final Class<UnsupportedOperationException> UNSUPPORTED = UnsupportedOperationException.class;
-    private static final Class<ArithmeticException> ARITHMETIC = ArithmeticException.class;
-
+public final class PromisesTest extends Yards {
     private static final Check CHECK = new Check();
 
     public static void main(String[] args) {
@@ -57,62 +48,8 @@ public final class PromisesTest {
 
     // ---- helpers
 
-    private static void type(GapYard yard, int... numbers) {
-        for (int number : numbers) {
-            yard.type(number);
-        }
-    }
-
-    private static int span(GapYard yard, int... coins) {
-        yard.wipe();
-        type(yard, coins);
-        return yard.semigroup();
-    }
-
-    private static int gaps(GapYard yard, int... gaps) {
-        yard.wipe();
-        type(yard, gaps);
-        return yard.fromGaps();
-    }
-
-    private static int idealOf(GapYard yard, int semigroup, int... numbers) {
-        yard.wipe();
-        for (int number : numbers) {
-            yard.type(number + 150);
-        }
-        return yard.ideal(semigroup);
-    }
-
-    private static GapYard of(int... coins) {
-        GapYard yard = new GapYard();
-        span(yard, coins);
-        return yard;
-    }
-
-    /** All numbers. */
-    private static GapYard all() {
-        return of(1);
-    }
-
-    private static GapYard full() {
-        GapYard yard = new GapYard();
-        for (int i = 0; i < 10; i++) {
-            span(yard, 3, 5);
-        }
-        return yard;
-    }
-
-    private static GapYard fullOfIdeals() {
-        GapYard yard = of(3, 5);
-        for (int i = 0; i < 8; i++) {
-            idealOf(yard, 0, i);
-        }
-        return yard;
-    }
-
     /** No semigroup has such a number. */
     private static final int[] WRONG = {-1, 1, 10, 11, Integer.MIN_VALUE, Integer.MAX_VALUE};
-    private static final int[] FAR = {-1, 301, Integer.MIN_VALUE, Integer.MAX_VALUE};
 
     private static void gapsAre(GapYard yard, int semigroup, int... gaps) {
         CHECK.due(gaps.length, () -> yard.genus(semigroup));
@@ -165,12 +102,12 @@ public final class PromisesTest {
         CHECK.part("promise 4");
         GapYard yard = new GapYard();
         CHECK.fails(yard, ARGUMENT, yard::semigroup);
-        type(yard, 4, 6);
+        typed(yard, 4, 6);
         CHECK.fails(yard, UNSUPPORTED, yard::semigroup);
         yard.type(0);
         CHECK.fails(yard, ARGUMENT, yard::semigroup);
         yard.wipe();
-        type(yard, 9, 6, 20, 9, 12);
+        typed(yard, 9, 6, 20, 9, 12);
         CHECK.due(0, yard::semigroup);
         CHECK.due(0, yard::wipe);
         coinsAre(yard, 0, 6, 9, 20);
@@ -179,25 +116,25 @@ public final class PromisesTest {
         // The conductors of 11 and 31, and of 4 and 101, are 300; that of 4 and 103 is 306.
         CHECK.due(2, () -> span(yard, 11, 31));
         CHECK.due(299, () -> yard.frobenius(2));
-        type(yard, 2, 300);
+        typed(yard, 2, 300);
         CHECK.fails(yard, UNSUPPORTED, yard::semigroup);
         yard.wipe();
-        type(yard, 4, 102);
+        typed(yard, 4, 102);
         CHECK.fails(yard, UNSUPPORTED, yard::semigroup);
         yard.wipe();
-        type(yard, 4, 101);
+        typed(yard, 4, 101);
         CHECK.due(3, yard::semigroup);
         CHECK.due(299, () -> yard.frobenius(3));
-        type(yard, 4, 103);
+        typed(yard, 4, 103);
         CHECK.fails(yard, UNSUPPORTED, yard::semigroup);
         yard.wipe();
-        type(yard, 300, 299);
+        typed(yard, 300, 299);
         CHECK.fails(yard, UNSUPPORTED, yard::semigroup);
         yard.wipe();
         CHECK.due(4, () -> span(yard, 2, 299));
         CHECK.due(297, () -> yard.frobenius(4));
         GapYard full = full();
-        type(full, 3, 7);
+        typed(full, 3, 7);
         CHECK.fails(full, STATE, full::semigroup);
         full.type(0);
         CHECK.fails(full, ARGUMENT, full::semigroup);
@@ -218,13 +155,13 @@ public final class PromisesTest {
         coinsAre(yard, 1, 1);
         CHECK.due(2, () -> gaps(yard, 1, 1, 2));
         gapsAre(yard, 2, 1, 2);
-        type(yard, 1, 2, 0);
+        typed(yard, 1, 2, 0);
         CHECK.fails(yard, ARGUMENT, yard::fromGaps);
         yard.wipe();
-        type(yard, 1, 4);
+        typed(yard, 1, 4);
         CHECK.fails(yard, ARGUMENT, yard::fromGaps);
         yard.wipe();
-        type(yard, 1, 300);
+        typed(yard, 1, 300);
         CHECK.fails(yard, ARGUMENT, yard::fromGaps);
         yard.wipe();
         CHECK.due(3, () -> gaps(yard, 1, 3, 5, 7, 9, 11, 13, 15, 17, 19, 21, 23));
@@ -429,33 +366,21 @@ public final class PromisesTest {
         CHECK.due(true, () -> yard.isKind(3, 'r'));
     }
 
-    /** All numbers from 70 on and 0: 274 has more than 400 ways, and is 137 and the generator 137. */
-    private static GapYard wide() {
-        GapYard yard = new GapYard();
-        span(yard, 70, 71, 73, 79, 83, 89, 97, 101, 103, 107, 109, 113);
-        yard.closure(0, 'r');
-        return yard;
-    }
-
     private static void promise16Many() {
         CHECK.part("promise 16, many ways");
-        GapYard yard = wide();
+        GapYard yard = fromSeventyOn();
         coinsAre(yard, 1, range(70, 139));
         CHECK.fails(yard, UNSUPPORTED, () -> yard.isKind(1, 'c'));
         CHECK.due(true, () -> yard.isKind(1, 'm'));
         CHECK.fails(yard, UNSUPPORTED, () -> yard.bettis(1));
         CHECK.fails(yard, UNSUPPORTED, () -> yard.relations(1));
         // 300 is looked at, and has 400 ways.
-        GapYard just = new GapYard();
-        span(just, 83, 92, 106, 120, 114, 104, 74, 88, 70, 92, 78, 80);
-        just.closure(0, 'r');
+        GapYard just = fourHundredWays();
         CHECK.due(400L, () -> just.ways(1, 300));
         CHECK.due(false, () -> just.isKind(1, 'c'));
         CHECK.due(true, () -> just.bettis(1) > 0 && just.relations(1) >= just.bettis(1));
         // 234 is looked at, and has 401 ways.
-        GapYard more = new GapYard();
-        span(more, 79, 52, 44, 44, 46, 44, 62, 68, 40, 76, 50, 70);
-        more.closure(0, 'r');
+        GapYard more = oneWayMore();
         CHECK.due(401L, () -> more.ways(1, 234));
         CHECK.fails(more, UNSUPPORTED, () -> more.isKind(1, 'c'));
         CHECK.fails(more, UNSUPPORTED, () -> more.bettis(1));
@@ -631,7 +556,7 @@ public final class PromisesTest {
             CHECK.fails(yard, INDEX, () -> yard.below(wrong, 0));
         }
         // All from 70 on: 70 below it, then their pairs, then far more than 5000 triples.
-        GapYard wide = wide();
+        GapYard wide = fromSeventyOn();
         CHECK.due(70, () -> wide.below(1, 1));
         // 71 without 70, as many as there are greater ones without another one, and 141 without 71.
         CHECK.due(71 + 69 * 68 / 2 + 1, () -> wide.below(1, 2));
@@ -824,7 +749,7 @@ public final class PromisesTest {
         GapYard yard = of(3, 5);
         CHECK.fails(yard, ARGUMENT, () -> yard.ideal(0));
         CHECK.fails(yard, INDEX, () -> yard.ideal(1));
-        type(yard, 152, 150, 152);
+        typed(yard, 152, 150, 152);
         CHECK.fails(yard, INDEX, () -> yard.ideal(1));
         CHECK.fails(yard, INDEX, () -> yard.ideal(-1));
         CHECK.due(0, () -> yard.ideal(0));
@@ -1144,7 +1069,7 @@ public final class PromisesTest {
         CHECK.part("promise 48");
         GapYard yard = new GapYard();
         CHECK.fails(yard, ARGUMENT, () -> yard.stamps(3));
-        type(yard, 4, 1, 5);
+        typed(yard, 4, 1, 5);
         CHECK.due(15, () -> yard.stamps(3));
         CHECK.due(1, () -> yard.stamps(1));
         CHECK.due(2, () -> yard.stamps(2));
@@ -1152,18 +1077,18 @@ public final class PromisesTest {
             CHECK.fails(yard, ARGUMENT, () -> yard.stamps(stamps));
         }
         CHECK.due(3, yard::wipe);
-        type(yard, 1, 300);
+        typed(yard, 1, 300);
         CHECK.due(20, () -> yard.stamps(20));
         yard.wipe();
-        type(yard, 0);
+        typed(yard, 0);
         CHECK.due(0, () -> yard.stamps(5));
-        type(yard, 1, 2);
+        typed(yard, 1, 2);
         CHECK.due(40, () -> yard.stamps(20));
         yard.wipe();
-        type(yard, 2, 3);
+        typed(yard, 2, 3);
         CHECK.due(0, () -> yard.stamps(20));
         yard.wipe();
-        type(yard, 1, 2, 4, 8, 16, 32, 64, 128, 256, 300, 0, 200);
+        typed(yard, 1, 2, 4, 8, 16, 32, 64, 128, 256, 300, 0, 200);
         CHECK.due(true, () -> yard.stamps(20) > 5000 && yard.stamps(20) <= 6000);
     }
 
@@ -1171,21 +1096,21 @@ public final class PromisesTest {
         CHECK.part("promise 49");
         GapYard yard = new GapYard();
         CHECK.fails(yard, ARGUMENT, () -> yard.sums(0));
-        type(yard, 1, 4, 6);
+        typed(yard, 1, 4, 6);
         CHECK.due(1, () -> yard.sums(0));
         CHECK.due(3, () -> yard.sums(1));
         CHECK.due(6, () -> yard.sums(2));
         CHECK.due(3, yard::wipe);
-        type(yard, 0, 300, 300);
+        typed(yard, 0, 300, 300);
         CHECK.due(10, () -> yard.sums(9));
         yard.wipe();
-        type(yard, 299, 300, 298);
+        typed(yard, 299, 300, 298);
         CHECK.due(19, () -> yard.sums(9));
         yard.wipe();
-        type(yard, 0, 1, 300);
+        typed(yard, 0, 1, 300);
         CHECK.due(10 * 11 / 2, () -> yard.sums(9));
         yard.wipe();
-        type(yard, 7);
+        typed(yard, 7);
         CHECK.due(1, () -> yard.sums(9));
         for (int times : new int[] {-1, 10, Integer.MIN_VALUE, Integer.MAX_VALUE}) {
             CHECK.fails(yard, ARGUMENT, () -> yard.sums(times));

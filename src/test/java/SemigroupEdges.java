@@ -416,6 +416,10 @@ final class SemigroupEdges extends Yards {
         GapYard yard = of(2, 299);
         edges.due(1, () -> yard.closure(0, 'r'));
         coinsAre(yard, 1, 2, 299);
+        edges.edge(18, "'r' the least Arf one that has all its elements", "of 5 and 7: 7 and 7 less 5 is 9, and so on");
+        GapYard five = of(5, 7);
+        five.closure(0, 'r');
+        gapsAre(five, 1, 1, 2, 3, 4, 6, 8);
         edges.edge(18, "'r' the least Arf one that has all its elements", "all numbers, and the greatest conductor");
         GapYard all = all();
         edges.due(1, () -> all.closure(0, 'r'));
@@ -516,6 +520,13 @@ final class SemigroupEdges extends Yards {
         coinsAre(yard, 2, 4, 101);
         edges.due(3, () -> yard.meet(1, 0, true));
         gapsAre(yard, 3);
+        edges.edge(20, "Adds what two semigroups have in common, or all sums of both.", "of semigroups by gaps alone");
+        GapYard gaps = ofGaps(1, 2, 4, 7);
+        gaps(gaps, 1, 2, 3);
+        edges.due(2, () -> gaps.meet(0, 1, true));
+        gapsAre(gaps, 2, 1, 2);
+        edges.due(3, () -> gaps.meet(0, 1, false));
+        gapsAre(gaps, 3, 1, 2, 3, 4, 7);
         edges.edge(20, "another one, or the same", "with itself it stays what it is");
         edges.due(4, () -> yard.meet(0, 0, false));
         coinsAre(yard, 4, 4, 101);

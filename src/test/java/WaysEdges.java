@@ -68,6 +68,7 @@ final class WaysEdges extends Yards {
         edges.edge(24, "Returns in how many ways a number can be paid.", "one for 0, without coins; one by one coin");
         edges.due(1L, () -> all().ways(0, 0));
         edges.due(1L, () -> all().ways(0, 300));
+        edges.due(1L, () -> all().ways(0, 299));
         edges.due(1L, () -> late(300).ways(9, 300));
         edges.edge(24, "Returns in how many ways a number can be paid.", "the least number with two, and 1 less");
         edges.due(1L, () -> of(4, 101).ways(0, 300));
@@ -107,6 +108,8 @@ final class WaysEdges extends Yards {
         edges.edge(26, "Returns how many unlike lengths the ways of a number have.", "fewer than ways: 3, 4 and 5 pay 8 by 3 and 5, and by 4 and 4");
         edges.due(2L, () -> of(3, 4, 5).ways(0, 8));
         edges.due(1, () -> of(3, 4, 5).lengths(0, 8));
+        edges.edge(26, "Returns how many unlike lengths the ways of a number have.", "300 is the greatest length, and the only one");
+        edges.due(1, () -> all().lengths(0, 300));
         edges.edge(26, "Returns how many unlike lengths the ways of a number have.", "at the edges of words of 64 lengths");
         // 2 and 3 pay n by n / 3 up to n / 2 coins.
         edges.due(64 - 43 + 1, () -> of(2, 3).lengths(0, 128));
@@ -174,6 +177,12 @@ final class WaysEdges extends Yards {
         edges.due(5, () -> of(3, 5).catenary(0, 30));
         edges.due(5, () -> of(3, 5).catenary(0, 300));
         edges.due(3, () -> of(2, 3).catenary(0, 300));
+        edges.edge(Edges.TERMS, "The distance of two ways is the greater one of how many coins each has that the other one has not.",
+                "the one that has more may be either of the two");
+        edges.due(3, () -> of(3, 7, 8).catenary(0, 14));
+        edges.due(3, () -> of(3, 4, 5).catenary(0, 10));
+        edges.due(2, () -> of(3, 4, 5).catenary(0, 8));
+        edges.due(2, () -> of(3, 4, 5).catenary(0, 11));
         edges.edge(29, "Returns the catenary degree of a number.", "the greatest: 145 is 29 of 5, or 5 of 29; 298 is 149 of 2");
         edges.due(29, () -> of(5, 29).catenary(0, 145));
         edges.due(0, () -> of(2, 299).catenary(0, 298));
@@ -208,6 +217,11 @@ final class WaysEdges extends Yards {
         edges.edge(29, MANY, "400 are taken");
         edges.due(3, () -> of(3, 4, 5).catenary(0, 213));
         edges.due(3, () -> fourHundredWays().catenary(1, 300));
+        edges.edge(29, MANY, "all 400 count, also the last ones");
+        edges.due(400L, () -> of(7, 9, 12, 17, 20).ways(0, 191));
+        edges.due(3, () -> of(7, 9, 12, 17, 20).catenary(0, 191));
+        edges.due(400L, () -> of(27, 15, 10, 17, 24, 14, 35, 36).ways(0, 288));
+        edges.due(5, () -> of(27, 15, 10, 17, 24, 14, 35, 36).catenary(0, 288));
         edges.edge(29, MANY, "401 are refused, and far more");
         edges.refused(UNSUPPORTED, () -> oneWayMore(), yard -> yard.catenary(1, 234));
         edges.refused(UNSUPPORTED, () -> of(3, 4, 5), yard -> yard.catenary(0, 214));
