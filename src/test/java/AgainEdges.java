@@ -117,8 +117,8 @@ final class AgainEdges extends Yards {
     private static String told(GapYard yard, int made) {
         StringBuilder text = new StringBuilder();
         text.append(yard.frobenius(made)).append(' ').append(yard.genus(made)).append(' ').append(yard.generators(made));
-        text.append(' ').append(Edges.answer(() -> yard.gap(made, yard.genus(made) / 2)));
-        text.append(' ').append(yard.generator(made, yard.generators(made) / 2));
+        text.append(' ').append(Edges.answer(() -> yard.gap(made, 2)));
+        text.append(' ').append(Edges.answer(() -> yard.generator(made, 1)));
         yard.drop();
         return text.toString();
     }
