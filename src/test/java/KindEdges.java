@@ -258,6 +258,8 @@ final class KindEdges extends Yards {
         is(false, fourHundredWays(), 1, 'c');
         edges.due(401L, () -> oneWayMore().ways(1, 234));
         edges.refused(UNSUPPORTED, () -> oneWayMore(), yard -> yard.isKind(1, 'c'));
+        edges.due(401L, () -> oneWayMoreAtLast().ways(1, 300));
+        edges.refused(UNSUPPORTED, () -> oneWayMoreAtLast(), yard -> yard.isKind(1, 'c'));
         edges.edge(16, "there are more than 400 ways for a number that is looked at", "a number that is not looked at may have more");
         // 300 has 781 ways, but the numbers that are looked at go up to 10.
         edges.due(781L, () -> of(3, 4, 5).ways(0, 300));

@@ -280,6 +280,9 @@ final class WaysEdges extends Yards {
         edges.edge(31, looked + ": " + sums, "401 are refused");
         edges.refused(UNSUPPORTED, () -> oneWayMore(), yard -> yard.bettis(1));
         edges.refused(UNSUPPORTED, () -> fromSeventyOn(), yard -> yard.bettis(1));
+        edges.edge(31, looked + ": " + sums, "401 of 300, the last one, are refused, where no other one has as many");
+        edges.due(401L, () -> oneWayMoreAtLast().ways(1, 300));
+        edges.refused(UNSUPPORTED, () -> oneWayMoreAtLast(), yard -> yard.bettis(1));
         edges.edge(31, sums, "numbers that are no such sum may have more");
         edges.due(3, () -> of(3, 4, 5).bettis(0));
         edges.due(1668713L, () -> twelve().ways(0, 300));
@@ -289,6 +292,7 @@ final class WaysEdges extends Yards {
         edges.due(true, () -> fourHundredWays().relations(1) >= fourHundredWays().bettis(1));
         edges.refused(UNSUPPORTED, () -> oneWayMore(), yard -> yard.relations(1));
         edges.refused(UNSUPPORTED, () -> fromSeventyOn(), yard -> yard.relations(1));
+        edges.refused(UNSUPPORTED, () -> oneWayMoreAtLast(), yard -> yard.relations(1));
         edges.edge(32, looked + ", as for bettis()", "numbers that are no such sum may have more");
         edges.due(3, () -> of(3, 4, 5).relations(0));
         // All from 12 to 23: as many as there are pairs without 12, which is the least one of any relations.

@@ -113,6 +113,13 @@ class Yards {
         return yard;
     }
 
+    /** Semigroup 1 is looked at for 300 alone, of all the numbers that have more than 400 ways: it has 401. */
+    static GapYard oneWayMoreAtLast() {
+        GapYard yard = of(79, 80, 99, 141, 79, 88, 97, 86, 80, 84, 87, 74);
+        yard.closure(0, 'r');
+        return yard;
+    }
+
     /**
      * The last semigroup has 0 and all from a number on, 295 to 300; from 300 on is the greatest conductor, genus,
      * multiplicity, type and number of generators. It is what 5, 7 and 11 with all behind 294 have in common.
